@@ -87,7 +87,9 @@ public final class Memoryfiles {
     }
 
     void add(int index, int more) {
-      put(index, at(index) + more);
+      if (index >= 0 && index < cells.length) {
+        cells[index] += more;
+      }
     }
 
     void clear(int from, int many) {
@@ -97,7 +99,9 @@ public final class Memoryfiles {
     }
 
     void clearAll() {
-      clear(0, cells.length);
+      for (int i = 0; i < cells.length; i++) {
+        cells[i] = 0;
+      }
     }
 
     void takeAll(Row other) {
@@ -152,6 +156,10 @@ public final class Memoryfiles {
       freed.clearAll();
     }
 
+    void forgetFreed() {
+      freed.clearAll();
+    }
+
     boolean isSameAs(Things other) {
       return cells.isSame(other.cells, 0, ALL_CELLS);
     }
@@ -199,7 +207,7 @@ public final class Memoryfiles {
     }
 
     int part(int file, int part) {
-      return partIn(MEMORY, file, part);
+      return cells.at(fileCell(MEMORY, file, part));
     }
 
     void putPart(int file, int part, int value) {
@@ -207,19 +215,19 @@ public final class Memoryfiles {
     }
 
     boolean isThere(int file) {
-      return part(file, KIND) != 0;
+      return cells.at(fileCell(MEMORY, file, KIND)) != 0;
     }
 
     boolean isDirectory(int file) {
-      return part(file, KIND) == DIRECTORY;
+      return cells.at(fileCell(MEMORY, file, KIND)) == DIRECTORY;
     }
 
     int namedIn(int set, int directory, int name) {
-      return name < 1 || name > NAMES ? NONE : partIn(set, directory, NAME_CELLS + name) - 1;
+      return name < 1 || name > NAMES ? NONE : cells.at(fileCell(set, directory, NAME_CELLS + name)) - 1;
     }
 
     int named(int directory, int name) {
-      return namedIn(MEMORY, directory, name);
+      return name < 1 || name > NAMES ? NONE : cells.at(fileCell(MEMORY, directory, NAME_CELLS + name)) - 1;
     }
 
     int countNames(int directory) {
@@ -278,14 +286,15 @@ public final class Memoryfiles {
     }
 
     boolean isAble(int user, int file, boolean isWrite) {
-      int owner = part(file, OWNER);
+      int owner = cells.at(fileCell(MEMORY, file, OWNER));
+      int given = cells.at(fileCell(MEMORY, file, RIGHTS));
       int bit = 2;
       if (user == owner) {
         bit = 32;
       } else if (user >> 1 == owner >> 1) {
         bit = 8;
       }
-      return user == 0 || (part(file, RIGHTS) & (isWrite ? bit >> 1 : bit)) != 0;
+      return user == 0 || (given & (isWrite ? bit >> 1 : bit)) != 0;
     }
 
     /** Whether the one DIRECTORY is the other, or lies around it. */
@@ -309,7 +318,7 @@ public final class Memoryfiles {
     }
 
     boolean isFree(int block) {
-      return blockPart(block, COUNT) == 0;
+      return cells.at(blockCell(block, COUNT)) == 0;
     }
 
     boolean wasFreed(int block) {
@@ -343,16 +352,16 @@ public final class Memoryfiles {
     }
 
     int blockIn(int set, int file, int place) {
-      return place < 0 || place >= PLACES ? NONE : partIn(set, file, PLACE_CELLS + place) - 1;
+      return place < 0 || place >= PLACES ? NONE : cells.at(fileCell(set, file, PLACE_CELLS + place)) - 1;
     }
 
     int blockAt(int file, int place) {
-      return blockIn(MEMORY, file, place);
+      return place < 0 || place >= PLACES ? NONE : cells.at(fileCell(MEMORY, file, PLACE_CELLS + place)) - 1;
     }
 
     private void putBlock(int file, int place, int block) {
       if (place >= 0 && place < PLACES) {
-        putPart(file, PLACE_CELLS + place, block + 1);
+        cells.put(fileCell(MEMORY, file, PLACE_CELLS + place), block + 1);
       }
     }
 
@@ -591,7 +600,7 @@ public final class Memoryfiles {
     }
 
     boolean isOpen(int handle) {
-      return fileOf(handle) >= 0;
+      return files.at(handle) > 0;
     }
 
     int countOpen() {
@@ -601,7 +610,7 @@ public final class Memoryfiles {
     int countOn(int file) {
       int many = 0;
       for (int handle = 0; handle < HANDLES; handle++) {
-        many += isOpen(handle) && fileOf(handle) == file ? 1 : 0;
+        many += files.at(handle) == file + 1 ? 1 : 0;
       }
       return many;
     }
@@ -610,9 +619,10 @@ public final class Memoryfiles {
     int begin(int file, int way) {
       for (int handle = 0; handle < HANDLES; handle++) {
         if (!isOpen(handle)) {
-          end(handle);
           files.put(handle, file + 1);
           ways.put(handle, way);
+          spots.put(handle, 0);
+          dropLocks(handle);
           return handle;
         }
       }
@@ -621,16 +631,11 @@ public final class Memoryfiles {
 
     void end(int handle) {
       files.put(handle, 0);
-      ways.put(handle, 0);
-      spots.put(handle, 0);
-      lockCounts.put(handle, 0);
-      stopWaiting(handle);
     }
 
     void endAll() {
-      for (int handle = 0; handle < HANDLES; handle++) {
-        end(handle);
-      }
+      // LOCKS and what is WAITED for end as a HANDLE begins anew.
+      files.clearAll();
     }
 
     int wayOfUse(int handle) {
@@ -1124,7 +1129,9 @@ public final class Memoryfiles {
 
     /** The NAME by which the WAY goes: the DIRECTORY times 8, and the NAME; NONE without any. */
     private int leaderOf(int file) {
-      for (int directory = 0; directory < FILES; directory++) {
+      // A DIRECTORY has its NAME in one place alone: the search need not begin ahead of that.
+      int first = things.isDirectory(file) ? things.part(file, PARENT) : 0;
+      for (int directory = first; directory < FILES; directory++) {
         for (int name = 1; name <= NAMES; name++) {
           if (things.named(directory, name) == file) {
             return directory * 8 + name;
@@ -1135,7 +1142,7 @@ public final class Memoryfiles {
     }
 
     void putWay(StringBuilder text, int file, int depth) {
-      int leader = leaderOf(file);
+      int leader = file == ROOT ? NONE : leaderOf(file);
       if (file == ROOT) {
         text.append('/');
       } else if (leader < 0 || depth > FILES) {
@@ -1286,12 +1293,12 @@ public final class Memoryfiles {
   }
 
   private int directoryAt(int path) {
-    int file = goalOf(path, true);
+    int file = paths.goal(MEMORY, worker, work, path, true);
     return file < 0 || things.isDirectory(file) ? file : FLAT;
   }
 
   private int dataAt(int path) {
-    int file = goalOf(path, true);
+    int file = paths.goal(MEMORY, worker, work, path, true);
     return file >= 0 && things.isDirectory(file) ? TREE : file;
   }
 
@@ -1316,8 +1323,8 @@ public final class Memoryfiles {
     if (!things.isThere(work)) {
       work = ROOT;
     }
+    things.forgetFreed();
     safe.takeAll(things);
-    things.takeAll(safe);
   }
 
   /** The answer, or DOWN behind a CRASH, with which all but DISK and JOURNAL is lost. */
@@ -2197,7 +2204,7 @@ public final class Memoryfiles {
     }
     tellFaults();
     d = d * 31 + text.length();
-    return d * 31 + (isSound() ? 1 : 0);
+    return d * 31 + (inspector.isAllSound(safe) ? 1 : 0);
   }
 
   private long digestOfFiles(long start) {
