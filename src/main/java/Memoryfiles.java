@@ -93,8 +93,8 @@ public final class Memoryfiles {
     }
 
     void clear(int from, int many) {
-      for (int i = from; i < from + many; i++) {
-        put(i, 0);
+      for (int i = Math.max(from, 0); i < from + many && i < cells.length; i++) {
+        cells[i] = 0;
       }
     }
 
@@ -610,7 +610,7 @@ public final class Memoryfiles {
     int countOn(int file) {
       int many = 0;
       for (int handle = 0; handle < HANDLES; handle++) {
-        many += files.at(handle) == file + 1 ? 1 : 0;
+        many += file >= 0 && files.at(handle) == file + 1 ? 1 : 0;
       }
       return many;
     }
