@@ -280,7 +280,7 @@ public final class Memoryfiles {
 
     void makeGone(int file) {
       for (int place = 0; place < PLACES; place++) {
-        dropPlace(file, place);
+        letGo(blockAt(file, place));
       }
       cells.clear(fileCell(MEMORY, file, 0), FILE_CELLS);
     }
@@ -336,7 +336,8 @@ public final class Memoryfiles {
     int countUsed(int user) {
       int many = 0;
       for (int block = 0; block < BLOCKS; block++) {
-        many += !isFree(block) && blockPart(block, USER) == user ? 1 : 0;
+        boolean isHis = cells.at(blockCell(block, USER)) == user;
+        many += isHis && cells.at(blockCell(block, COUNT)) > 0 ? 1 : 0;
       }
       return many;
     }
@@ -389,11 +390,12 @@ public final class Memoryfiles {
     }
 
     private void letGo(int block) {
-      if (block < 0 || isFree(block)) {
+      int many = cells.at(blockCell(block, COUNT));
+      if (many == 0) {
         return;
       }
-      cells.add(blockCell(block, COUNT), -1);
-      if (isFree(block)) {
+      cells.put(blockCell(block, COUNT), many - 1);
+      if (many == 1) {
         freed.put(block, 1);
         cells.clear(blockCell(block, 0), BLOCK_CELLS);
       }
@@ -1288,10 +1290,6 @@ public final class Memoryfiles {
     return paths.goal(MEMORY, worker, work, path, isFollowed);
   }
 
-  private int placeOf(int path) {
-    return paths.directoryOf(worker, work, path);
-  }
-
   private int directoryAt(int path) {
     int file = paths.goal(MEMORY, worker, work, path, true);
     return file < 0 || things.isDirectory(file) ? file : FLAT;
@@ -1427,7 +1425,7 @@ public final class Memoryfiles {
   }
 
   private int makeOne(int path, int kind, int size) {
-    int directory = placeOf(path);
+    int directory = paths.directoryOf(worker, work, path);
     if (directory < 0) {
       return directory;
     }
@@ -1456,7 +1454,7 @@ public final class Memoryfiles {
     if (things.isDirectory(file)) {
       return TREE;
     }
-    int directory = placeOf(to);
+    int directory = paths.directoryOf(worker, work, to);
     if (directory < 0) {
       return directory;
     }
@@ -1472,7 +1470,7 @@ public final class Memoryfiles {
       return DOWN;
     }
     needArgument(Paths.isPlace(path));
-    int directory = placeOf(path);
+    int directory = paths.directoryOf(worker, work, path);
     if (directory < 0) {
       return directory;
     }
@@ -1494,7 +1492,7 @@ public final class Memoryfiles {
       return DOWN;
     }
     needArgument(Paths.isPlace(from) && Paths.isPlace(to));
-    int source = placeOf(from);
+    int source = paths.directoryOf(worker, work, from);
     if (source < 0) {
       return source;
     }
@@ -1502,7 +1500,7 @@ public final class Memoryfiles {
     if (file < 0) {
       return NO;
     }
-    int target = placeOf(to);
+    int target = paths.directoryOf(worker, work, to);
     if (target < 0) {
       return target;
     }
@@ -1848,7 +1846,7 @@ public final class Memoryfiles {
     if (file < 0) {
       return file;
     }
-    int directory = placeOf(to);
+    int directory = paths.directoryOf(worker, work, to);
     if (directory < 0) {
       return directory;
     }
@@ -1875,7 +1873,7 @@ public final class Memoryfiles {
       return DOWN;
     }
     needArgument(Paths.isPlace(path));
-    int directory = placeOf(path);
+    int directory = paths.directoryOf(worker, work, path);
     if (directory < 0) {
       return directory;
     }
@@ -1913,7 +1911,7 @@ public final class Memoryfiles {
     }
     needIndex(trees.isLost(file));
     needArgument(Paths.isPlace(path));
-    int directory = placeOf(path);
+    int directory = paths.directoryOf(worker, work, path);
     if (directory < 0) {
       return directory;
     }
