@@ -196,6 +196,18 @@ public final class MemoryfilesPromises {
     due(x.house(3), NONE);
   }
 
+  private static void promise5Rights() {
+    Memoryfiles x = new Memoryfiles();
+    x.makeDirectory(01);
+    x.rights(01, 63 - 8);
+    x.be(1);
+    due(x.watch(01), SHUT);
+    x.be(0);
+    x.rights(01, 63 - 4);
+    x.be(1);
+    due(x.watch(01), 1);
+  }
+
   private static void promise6() {
     Memoryfiles x = new Memoryfiles();
     x.makeFile(01);
@@ -434,6 +446,38 @@ public final class MemoryfilesPromises {
     due(x.unlink(01), LADEN);
     dueThrow(ARGUMENT, () -> x.unlink(0));
     dueThrow(ARGUMENT, () -> x.unlink(016));
+  }
+
+  /** The last NAME counts as the others. */
+  private static void promise11Last() {
+    Memoryfiles x = new Memoryfiles();
+    x.makeDirectory(01);
+    x.makeFile(015);
+    due(x.unlink(01), LADEN);
+    due(x.ofFile(1, 5), 1);
+    x.makeDirectory(02);
+    due(x.compare(01, 02), 0);
+    due(x.copyTree(01, 03), 2);
+    due(x.find(035, true), 5);
+    due(x.compare(01, 03), 1);
+    x.rights(015, 0);
+    x.be(1);
+    due(x.copyTree(01, 04), SHUT);
+    due(x.removeTree(01), SHUT);
+    x.be(0);
+    due(x.removeTree(01), 2);
+    due(x.house(4), 4);
+    x.makeDirectory(031);
+    x.makeDirectory(032);
+    x.unlink(035);
+    x.makeDirectory(035);
+    x.makeFile(0355);
+    x.rights(03, 63);
+    x.be(2);
+    due(x.removeTree(03), SHUT);
+    x.be(0);
+    due(x.removeTree(03), 5);
+    due(x.isSound() ? 1 : 0, 1);
   }
 
   private static void promise12() {
@@ -841,6 +885,20 @@ public final class MemoryfilesPromises {
     due(x.house(12), 3);
   }
 
+  /** Where no BYTES are told no BLOCK is touched. */
+  private static void promise19End() {
+    Memoryfiles x = new Memoryfiles();
+    x.makeFile(01);
+    x.open(01, 2);
+    x.write(0, 12345, 5);
+    due(x.read(0, 3), "");
+    due(x.house(13), 0);
+    due(x.ofBlock(0, 3), 0);
+    x.seek(0, 4);
+    due(x.read(0, 3), "5");
+    due(x.house(13), 1);
+  }
+
   private static void promise20() {
     Memoryfiles x = new Memoryfiles();
     x.makeFile(01);
@@ -1000,6 +1058,26 @@ public final class MemoryfilesPromises {
     x.close(0);
     due(x.ofHandle(2, 4), 1);
     due(x.ofHandle(0, 5), NONE);
+  }
+
+  /** It WAITS for what MEETS its LOCK alone: one that both would share does not. */
+  private static void promise21Shared() {
+    Memoryfiles x = new Memoryfiles();
+    x.makeFile(01);
+    x.open(01, 2);
+    x.open(01, 2);
+    x.lock(0, 0, 1, false);
+    x.lock(1, 5, 6, true);
+    due(x.lock(0, 5, 6, false), HELD);
+    due(x.lock(1, 0, 1, true), HELD);
+    due(x.ofHandle(0, 5), 1);
+    due(x.ofHandle(1, 5), 1);
+    due(x.unlock(1), 1);
+    due(x.lock(1, 5, 6, false), 1);
+    due(x.lock(1, 0, 1, true), HELD);
+    due(x.ofHandle(0, 4), 1);
+    due(x.ofHandle(0, 5), 0);
+    due(x.ofHandle(1, 5), 0);
   }
 
   private static void promise22() {
@@ -1392,6 +1470,24 @@ public final class MemoryfilesPromises {
     x.makeSoft(05, 05);
     due(x.copyTree(051, 0444), ROUND);
     due(x.copyTree(05, 051), ROUND);
+  }
+
+  /** Just so many FILES as there are numbers left. */
+  private static void promise30Full() {
+    Memoryfiles x = new Memoryfiles();
+    for (int outer = 1; outer <= 4; outer++) {
+      x.makeDirectory(outer);
+      for (int name = 1; name <= 5; name++) {
+        x.makeFile(outer * 8 + name);
+      }
+    }
+    due(x.house(4), 25);
+    due(x.copyTree(01, 05), FULL);
+    x.unlink(015);
+    due(x.copyTree(01, 05), 5);
+    due(x.house(4), 29);
+    due(x.copyTree(011, 055), 1);
+    due(x.copyTree(011, 015), FULL);
   }
 
   private static void promise31() {
@@ -2086,13 +2182,13 @@ public final class MemoryfilesPromises {
       case 2: promise2(); break;
       case 3: promise3(); break;
       case 4: promise4(); break;
-      case 5: promise5(); break;
+      case 5: promise5(); promise5Rights(); break;
       case 6: promise6(); break;
       case 7: promise7(); break;
       case 8: promise8(); break;
       case 9: promise9(); break;
       case 10: promise10(); break;
-      case 11: promise11(); break;
+      case 11: promise11(); promise11Last(); break;
       case 12: promise12(); break;
       case 13: promise13(); break;
       case 14: promise14(); break;
@@ -2100,9 +2196,9 @@ public final class MemoryfilesPromises {
       case 16: promise16(); break;
       case 17: promise17(); break;
       case 18: promise18(); break;
-      case 19: promise19(); promise19Cache(); break;
+      case 19: promise19(); promise19Cache(); promise19End(); break;
       case 20: promise20(); promise20Blocks(); break;
-      case 21: promise21(); promise21Ring(); break;
+      case 21: promise21(); promise21Ring(); promise21Shared(); break;
       case 22: promise22(); break;
       case 23: promise23(); promise23Each(); break;
       case 24: promise24(); promiseDown(); break;
@@ -2111,7 +2207,7 @@ public final class MemoryfilesPromises {
       case 27: promise27(); break;
       case 28: promise28(); break;
       case 29: promise29(); break;
-      case 30: promise30(); promise30Rights(); break;
+      case 30: promise30(); promise30Rights(); promise30Full(); break;
       case 31: promise31(); break;
       case 32: promise32(); break;
       case 33: promise33(); break;
