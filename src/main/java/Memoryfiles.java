@@ -93,7 +93,7 @@ public final class Memoryfiles {
     }
 
     void clear(int from, int many) {
-      for (int i = Math.max(from, 0); i < from + many && i < cells.length; i++) {
+      for (int i = from; from >= 0 && i < from + many && i < cells.length; i++) {
         cells[i] = 0;
       }
     }

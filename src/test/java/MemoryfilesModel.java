@@ -1634,7 +1634,11 @@ public final class MemoryfilesModel {
       model = m;
       calm = 1 + below(12);
       List<String> calls = new ArrayList<>();
-      for (int i = 0; i < 512; i++) {
+      // A digest is a call, too: some runs ask for one each time, the others can be twice as long.
+      int rest = 512;
+      for (int i = 0; rest > 1; i++) {
+        boolean isAsked = run % 3 == 0 || i % 16 == 0 || rest < 4;
+        rest -= isAsked ? 2 : 1;
         isFilling = run % 4 == 0 && i % 256 < 90;
         String answers = step(x, m);
         int bar = answers.indexOf('|');
@@ -1643,7 +1647,7 @@ public final class MemoryfilesModel {
         calls.add(call + " = " + got);
         String key = call.split(" ")[0] + (want.matches("-[0-9]+|throws.*") ? " " + want : "");
         seen.merge(key, 1, Integer::sum);
-        if (!got.equals(want) || x.digest() != m.digest()) {
+        if (!got.equals(want) || isAsked && x.digest() != m.digest()) {
           System.out.println("run " + run + ", call " + i + ": due is " + want
               + (got.equals(want) ? ", but the digests differ" : ""));
           calls.forEach(one -> System.out.println("  " + one));
