@@ -604,6 +604,67 @@ public final class MemoryfilesCallEdges {
     refused(x, INDEX, () -> x.close(0));
   }
 
+  /** It is asked who is ABLE to WRITE, not whose it is. */
+  private static void cutsByRights() {
+    Memoryfiles x = made();
+    x.rights(0, 63);
+    x.be(1);
+    x.makeFile(01);
+    x.rights(01, 017);
+    refused(x, SHUT, () -> x.cut(01, 0));
+    refused(x, SHUT, () -> x.cut(01, 1));
+    for (int user : new int[] {2, 3}) {
+      x.be(user);
+      due(x.cut(01, 8 * user), user == 2 ? 0 : 16);
+    }
+    x.be(0);
+    due(x.cut(01, 3), 24);
+    x.be(1);
+    x.rights(01, 020);
+    due(x.cut(01, 4), 3);
+    x.be(2);
+    refused(x, SHUT, () -> x.cut(01, 5));
+  }
+
+  /** PLACE is 0 for each WAY, whatever the SIZE is. */
+  private static void opensAtZero() {
+    Memoryfiles x = made();
+    x.makeFile(01);
+    put(x, 01, 0, 24);
+    for (int way = 0; way <= 3; way++) {
+      int h = x.open(01, way);
+      due(x.ofHandle(h, 1), way);
+      due(x.ofHandle(h, 2), 0);
+      x.seek(h, 40 + way);
+    }
+    // The HANDLE of one that is closed begins anew.
+    for (int way = 3; way >= 0; way--) {
+      x.close(way);
+      due(x.open(01, 3), way);
+      due(x.ofHandle(way, 2), 0);
+    }
+  }
+
+  /** RIGHTS are asked as it is opened alone: read() and write() tell SHUT by the WAY, and by nothing else. */
+  private static void staysOpen() {
+    Memoryfiles x = made();
+    x.makeFile(01);
+    put(x, 01, 0, 4);
+    x.open(01, 2);
+    x.open(01, 3);
+    x.rights(01, 0);
+    x.be(3);
+    refused(x, SHUT, () -> x.open(01, 0));
+    refused(x, SHUT, () -> x.open(01, 1));
+    due(x.read(0, 2), "11");
+    due(x.write(0, 22, 2), 4);
+    due(x.write(1, 3, 1), 5);
+    x.seek(0, 0);
+    due(x.read(0, 20), "11223");
+    due(x.close(0), 0);
+    due(x.close(1), 0);
+  }
+
   private static void closes() {
     Memoryfiles x = made();
     for (int h = -1; h <= 6; h++) {
@@ -781,6 +842,9 @@ public final class MemoryfilesCallEdges {
     // SHUT; FULL (above 80); HELD; FULL.
     refused(x, SHUT, () -> x.write(0, 1, 1));
     refused(x, FULL, () -> x.write(1, 1, 1));
+    x.seek(1, 79);
+    refused(x, HELD, () -> x.write(1, 1, 1));
+    refused(x, FULL, () -> x.write(1, 1, 2));
     x.seek(1, 0);
     refused(x, HELD, () -> x.write(1, 1, 1));
     refused(x, FULL, () -> x.write(2, 1, 1));
@@ -1559,9 +1623,12 @@ public final class MemoryfilesCallEdges {
     edge("13 (rights)", MemoryfilesCallEdges::tellsRights);
     edge("14 (quota)", MemoryfilesCallEdges::tellsQuota);
     edge("15 (cut)", MemoryfilesCallEdges::cuts);
+    edge("15 (cut): SHUT, if USER is not ABLE to WRITE it", MemoryfilesCallEdges::cutsByRights);
     edge("15 (cut): if one of the BYTES behind it is not 0", MemoryfilesCallEdges::cutOfShared);
     edge("15 (cut): First BLOCKS are let go; then", MemoryfilesCallEdges::cutLetsGoFirst);
     edge("16 (open)", MemoryfilesCallEdges::opens);
+    edge("16 (open): with PLACE 0", MemoryfilesCallEdges::opensAtZero);
+    edge("16 (open), 19 (read), 20 (write): SHUT", MemoryfilesCallEdges::staysOpen);
     edge("17 (close)", MemoryfilesCallEdges::closes);
     edge("18 (seek)", MemoryfilesCallEdges::seeks);
     edge("19 (read)", MemoryfilesCallEdges::reads);

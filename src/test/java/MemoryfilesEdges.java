@@ -1432,6 +1432,36 @@ public final class MemoryfilesEdges {
     }
   }
 
+  /** A BLOCK that is let go and given out again with the same BYTES, but another USER. */
+  private static void userCounts() {
+    Memoryfiles x = made();
+    x.makeFile(01);
+    int h = x.open(01, 1);
+    x.write(h, 11112222, 8);
+    x.write(h, 11110000, 8);
+    x.rights(0, 63);
+    x.be(1);
+    due(x.copyTree(01, 02), 1);
+    x.be(0);
+    x.cut(01, 8);
+    x.flush();
+    due(x.ofBlock(1, 1), 0);
+    due(x.ofBlock(1, 2), 4);
+    // The second BLOCK is let go, and is that of the first place then: USER 1, as OWNER of the FILE.
+    x.be(1);
+    due(x.cut(02, 4), 16);
+    due(x.ofBlock(1, 0), 1);
+    due(x.ofBlock(1, 1), 1);
+    due(x.ofBlock(1, 2), 4);
+    due(x.house(7), 2 + 3);
+    due(x.isSound(), true);
+    x.crash(0);
+    x.mend();
+    due(x.ofBlock(1, 1), 1);
+    due(x.ofUser(0, false), 1);
+    due(x.ofUser(1, false), 1);
+  }
+
   private static void noneIsAnother() {
     Memoryfiles x = busy();
     int writes = x.house(11);
@@ -2283,6 +2313,7 @@ public final class MemoryfilesEdges {
 
   private static void section4() {
     edge("each THING that is another one by it", MemoryfilesEdges::eachOtherThing);
+    edge("BYTES, COUNT, USER count", MemoryfilesEdges::userCounts);
     edge("If none is another one, nothing is WRITTEN", MemoryfilesEdges::noneIsAnother);
     edge("if the JOURNAL would have more than 160 RECORDS, it is FLUSHED first", MemoryfilesEdges::hundredAndSixty);
     edge("with MEMORY as it was ahead of the call", MemoryfilesEdges::crashInThePassing);
