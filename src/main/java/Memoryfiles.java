@@ -993,7 +993,9 @@ public final class Memoryfiles {
 
     void loseLink(int file) {
       things.putPart(file, LINKS, things.part(file, LINKS) - 1);
-      endIfLost(file);
+      if (isLost(file)) {
+        things.makeGone(file);
+      }
     }
 
     /** Whether the FILE is GONE: it has no LINKS, and no HANDLE has it open. */
@@ -1027,35 +1029,49 @@ public final class Memoryfiles {
     }
 
     /** How many FILES a copy of it would have: each NAME in it is one. */
-    int countCopies(int file, int depth) {
+    int countCopies(int file) {
+      return countFrom(file, 0);
+    }
+
+    private int countFrom(int file, int depth) {
       int many = 1;
       for (int name = 1; name <= NAMES && depth < FILES; name++) {
         int next = things.named(file, name);
-        many += next < 0 ? 0 : countCopies(next, depth + 1);
+        many += next < 0 ? 0 : countFrom(next, depth + 1);
       }
       return many;
     }
 
-    boolean isReadable(int user, int file, int depth) {
+    /** Whether the USER is ABLE to READ all of a FILE and what is in it, SOFT ones aside. */
+    boolean isReadable(int user, int file) {
+      return isReadableFrom(user, file, 0);
+    }
+
+    private boolean isReadableFrom(int user, int file, int depth) {
       if (things.part(file, KIND) != SOFT && !things.isAble(user, file, false)) {
         return false;
       }
       for (int name = 1; name <= NAMES && depth < FILES; name++) {
         int next = things.named(file, name);
-        if (next >= 0 && !isReadable(user, next, depth + 1)) {
+        if (next >= 0 && !isReadableFrom(user, next, depth + 1)) {
           return false;
         }
       }
       return true;
     }
 
-    boolean isRemovable(int user, int file, int depth) {
+    /** Whether the USER is ABLE to WRITE each DIRECTORY in it that has NAMES, and itself, if it has some. */
+    boolean isRemovable(int user, int file) {
+      return isRemovableFrom(user, file, 0);
+    }
+
+    private boolean isRemovableFrom(int user, int file, int depth) {
       if (things.countNames(file) > 0 && !things.isAble(user, file, true)) {
         return false;
       }
       for (int name = 1; name <= NAMES && depth < FILES; name++) {
         int next = things.named(file, name);
-        if (next >= 0 && !isRemovable(user, next, depth + 1)) {
+        if (next >= 0 && !isRemovableFrom(user, next, depth + 1)) {
           return false;
         }
       }
@@ -1063,7 +1079,11 @@ public final class Memoryfiles {
     }
 
     /** Copies a FILE into a NAME; there are FILES enough for it, as the caller has counted. */
-    void copyInto(int file, int directory, int name, int owner, int time, int depth) {
+    void copyInto(int file, int directory, int name, int owner, int time) {
+      copyFrom(file, directory, name, owner, time, 0);
+    }
+
+    private void copyFrom(int file, int directory, int name, int owner, int time, int depth) {
       int copy = things.makeNew(things.part(file, KIND), owner, time);
       if (copy < 0 || depth > FILES) {
         return;
@@ -1075,24 +1095,32 @@ public final class Memoryfiles {
       for (int inner = 1; inner <= NAMES; inner++) {
         int next = things.named(file, inner);
         if (next >= 0) {
-          copyInto(next, copy, inner, owner, time, depth + 1);
+          copyFrom(next, copy, inner, owner, time, depth + 1);
         }
       }
     }
 
     /** How many NAMES: those in it, and its own. */
-    int removeFrom(int directory, int name, int time, int depth) {
+    int removeFrom(int directory, int name, int time) {
+      return removeAll(directory, name, time, 0);
+    }
+
+    private int removeAll(int directory, int name, int time, int depth) {
       int file = things.named(directory, name);
       int many = 1;
       for (int inner = 1; inner <= NAMES && depth < FILES; inner++) {
-        many += things.named(file, inner) < 0 ? 0 : removeFrom(file, inner, time, depth + 1);
+        many += things.named(file, inner) < 0 ? 0 : removeAll(file, inner, time, depth + 1);
       }
       things.leadName(directory, name, NONE, time);
       loseLink(file);
       return many;
     }
 
-    boolean isAlike(int one, int other, int depth) {
+    boolean isAlike(int one, int other) {
+      return isAlikeFrom(one, other, 0);
+    }
+
+    private boolean isAlikeFrom(int one, int other, int depth) {
       int kind = things.part(one, KIND);
       if (kind != things.part(other, KIND) || things.part(one, SIZE) != things.part(other, SIZE)) {
         return false;
@@ -1112,7 +1140,7 @@ public final class Memoryfiles {
       for (int name = 1; name <= NAMES; name++) {
         int first = things.named(one, name);
         int second = things.named(other, name);
-        if (first < 0 != second < 0 || first >= 0 && !isAlike(first, second, depth + 1)) {
+        if (first < 0 != second < 0 || first >= 0 && !isAlikeFrom(first, second, depth + 1)) {
           return false;
         }
       }
@@ -1143,7 +1171,11 @@ public final class Memoryfiles {
       return NONE;
     }
 
-    void putWay(StringBuilder text, int file, int depth) {
+    void putWay(StringBuilder text, int file) {
+      putWayFrom(text, file, 0);
+    }
+
+    private void putWayFrom(StringBuilder text, int file, int depth) {
       int leader = file == ROOT ? NONE : leaderOf(file);
       if (file == ROOT) {
         text.append('/');
@@ -1151,7 +1183,7 @@ public final class Memoryfiles {
         text.append('?').append(file);
       } else {
         int directory = leader >> 3;
-        putWay(text, directory, depth + 1);
+        putWayFrom(text, directory, depth + 1);
         if (directory != ROOT) {
           text.append('/');
         }
@@ -1857,14 +1889,14 @@ public final class Memoryfiles {
     if (things.isDirectory(file) && things.isAround(file, directory)) {
       return WITHIN;
     }
-    if (!trees.isReadable(worker, file, 0)) {
+    if (!trees.isReadable(worker, file)) {
       return SHUT;
     }
-    int many = trees.countCopies(file, 0);
+    int many = trees.countCopies(file);
     if (things.countFiles(MEMORY) + many > FILES) {
       return FULL;
     }
-    trees.copyInto(file, directory, name, worker, clock, 0);
+    trees.copyInto(file, directory, name, worker, clock);
     return settle(many);
   }
 
@@ -1881,10 +1913,10 @@ public final class Memoryfiles {
     if (file < 0) {
       return NO;
     }
-    if (!trees.isRemovable(worker, file, 0)) {
+    if (!trees.isRemovable(worker, file)) {
       return SHUT;
     }
-    return settle(trees.removeFrom(directory, Paths.lastStep(path), clock, 0));
+    return settle(trees.removeFrom(directory, Paths.lastStep(path), clock));
   }
 
   public int compare(int one, int other) throws IllegalArgumentException {
@@ -1900,7 +1932,7 @@ public final class Memoryfiles {
     if (second < 0) {
       return second;
     }
-    return trees.isAlike(first, second, 0) ? 1 : 0;
+    return trees.isAlike(first, second) ? 1 : 0;
   }
 
   // lost ones and faults
@@ -1961,7 +1993,7 @@ public final class Memoryfiles {
       if (faults.ofFiles(file) > 0) {
         startWord();
         text.append('L');
-        inspector.putWay(text, file, 0);
+        inspector.putWay(text, file);
       }
     }
     for (int block = 0; block < BLOCKS; block++) {
@@ -1972,7 +2004,7 @@ public final class Memoryfiles {
         if (holder < 0) {
           text.append('-');
         } else {
-          inspector.putWay(text, holder, 0);
+          inspector.putWay(text, holder);
         }
       }
     }
@@ -2053,7 +2085,7 @@ public final class Memoryfiles {
     }
     needIndex(things.isThere(file));
     text.setLength(0);
-    inspector.putWay(text, file, 0);
+    inspector.putWay(text, file);
     return text.toString();
   }
 
@@ -2214,7 +2246,7 @@ public final class Memoryfiles {
           d = d * 31 + toldOfFile(file, what);
         }
         text.setLength(0);
-        inspector.putWay(text, file, 0);
+        inspector.putWay(text, file);
         d = d * 31 + text.length();
         int size = things.part(file, KIND) == DATA ? things.part(file, SIZE) : 0;
         for (int i = 0; i < size; i++) {
